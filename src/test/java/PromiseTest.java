@@ -16,6 +16,7 @@ public final class PromiseTest {
     promise2Feed();
     promise3Trim();
     promise4Teach();
+    promise4TeachAgain();
     promise4Tokens();
     promise4Error1();
     promise4Depth();
@@ -143,8 +144,45 @@ public final class PromiseTest {
     due(x.count(1), 0, "an empty bill tells nothing");
   }
 
+  private static void promise4TeachAgain() {
+    promise = 4;
+    String rusty = RAIL + FIST + "rust on a from 0 to 99 by 9;".repeat(12)
+        + "prize p worth " + "1+".repeat(100) + "1 of 9 when height > 0; turn f at a;";
+    BellHammer x = new BellHammer();
+    for (int i = 0; i < 6; i++) {
+      due(teach(x, rusty), 0, "the same bill anew");
+      due(x.would(0, 0, 0), 5, "a rusty rail");
+      due(x.prize(0, 2), 101, "worth");
+      due(x.prize(0, 1), 0, "nothing is given yet");
+      due(x.fist(0, 6), 0, "no height yet");
+      due(x.pass(1), 1, "the prize of the first round");
+      due(x.fist(0, 3), 4, "no rest behind a strike");
+      due(x.count(7), 101, "purses");
+      x.strike(0, 0);
+    }
+    for (int i = 0; i < 3; i++) {
+      due(teach(x, RAIL + FIST), 0, "a bill without rust");
+      due(x.would(0, 0, 0), 15, "no rust is left");
+    }
+    due(teach(x, FIST), 0, "only a fist");
+    outOfBounds(() -> x.rail(0, 0));
+    BellHammer y = taught(FAIR);
+    y.strike(0, 0);
+    teach(y, FAIR);
+    teach(y, FAIR);
+    y.strike(1, 0);
+    teach(y, FAIR);
+    y.pass(1);
+    due(y.fist(1, 3), 0, "a fist of a new bill is not sore");
+  }
+
   private static void promise4Tokens() {
     promise = 4;
+    accepted("rail az high 20 puck 4 spring 0; rail a0 high 20 puck 4 spring 0;"
+        + "rail a high 20 puck 4 spring 0; rail aa high 20 puck 4 spring 0;");
+    accepted("fist a9 arm 1 aim 0 elbows 0; fist aj arm 1 aim 0 elbows 0;"
+        + "fist a00 arm 1 aim 0 elbows 0; fist abcdefghia arm 1 aim 0 elbows 0;"
+        + "fist abcdefghi arm 1 aim 0 elbows 0; fist abcdefghib arm 1 aim 0 elbows 0;");
     accepted("\n\n rail\na \n high 20puck 4spring 10;\n");
     accepted("rail a high 020 puck 000004 spring 000;");
     accepted("rail abcdefghij high 20 puck 4 spring 0;");
@@ -226,6 +264,12 @@ public final class PromiseTest {
     accepted(worth("min(1,min(1,min(1,min(1,min(1,min(1,min(1,min(1,2))))))))"));
     refused(worth("(min(1,min(1,min(1,min(1,min(1,min(1,min(1,max(1,2)))))))))"), 1, 60);
     refused(worth("((((((((min 1))))))))"), 1, 26);
+    accepted(worth("min((((((((1))))))),2)"));
+    refused(worth("min(((((((((1)))))))),2)"), 1, 25);
+    refused(worth("min(1,(((((((((1)))))))))"), 1, 27);
+    accepted(RAIL + FIST + "turn f at a when [[[[[[[[rings]]]]]]]];");
+    refused(RAIL + FIST + "turn f at a when [[[[[[[[[rings]]]]]]]]];", 1,
+        RAIL.length() + FIST.length() + 25);
     accepted(when("[[[[[[[[rings]]]]]]]]"));
     refused(when("[[[[[[[[[rings]]]]]]]]]"), 1, 34);
     accepted(when("not not not not not not not not rings"));
@@ -564,6 +608,12 @@ public final class PromiseTest {
     due(x.fist(1, 4), 5, "sore by the puck ahead of the prizes");
     due(x.strike(1, 0), 10, "a sore arm strikes with less: 8 - 4");
     due(x.strike(0, 0), 1, "5 - 4");
+    BellHammer z = taught(FAIR + "prize p worth 1 of 9 when not rings;"
+        + "prize q worth 10 of 9 when rings and 1 = 1; prize r worth 100 of 9 when 1 = 1;");
+    z.strike(1, 0);
+    due(z.count(7), 10, "rings, and so does not hold with not");
+    z.strike(0, 0);
+    due(z.count(7), 11, "does not ring");
     due(x.strike(0, 0), 0, "no force is left");
     due(x.board(0), 0, "a puck that does not fly is on the board");
     due(x.count(0), 0, "out of turn, so the round stays");
@@ -753,6 +803,12 @@ public final class PromiseTest {
     due(x.needs(3, 0), 1, "at least 1");
     x.strike(0, 0);
     due(x.needs(0, 0), 10, "a sore arm needs more");
+    BellHammer z = taught("rail a high 70 puck 8 spring 0; rail b high 68 puck 8 spring 0;"
+        + "rust on a from 0 to 99 by 9;".repeat(3) + "rust on a from 0 to 99 by 2;"
+        + "rust on b from 0 to 99 by 9;".repeat(3) + "rust on b from 0 to 99 by 2;"
+        + "fist f arm 1 aim 0 elbows 0;");
+    due(z.needs(0, 0), -1, "50 + 20 is 70, but 4 * 99 / 8 is 49");
+    due(z.needs(0, 1), 98, "49 + 19 is 68, and 4 * 98 / 8 is 49");
     due(x.count(5), 1, "nothing is changed");
     due(x.fist(0, 0), 5, "nothing is changed");
     BellHammer y = taught("rail a high 98 puck 9 spring 0; rail b high 21 puck 9 spring 0;"
@@ -787,6 +843,28 @@ public final class PromiseTest {
       due(x.foresee(rounds, 3), y.count(5) - strikes, "strikes");
       due(x.digest() == before ? 1 : 0, 1, "nothing is changed");
     }
+    String rich = "rail a high 60 puck 2 spring 19; rail b high 40 puck 3 spring 7;"
+        + "rust on a from 10 to 30 by 1; rust on b from 0 to 5 by 2;"
+        + "fist f arm 9 aim 4 elbows 1; fist g arm 15 aim 3 elbows 8;"
+        + "prize p worth best a + sore g of 9 when rings and bells < 3;"
+        + "prize q worth best b * 10 + purse f of 9 when height > 20;"
+        + "prize r worth 1 + left p * 1000 + round of 50 when not rings;"
+        + "turn f at a when height > 3; turn f at b; turn g at a when bells = 0; turn g at b;";
+    for (int done = 0; done <= 4; done++) {
+      BellHammer y = taught(rich);
+      BellHammer z = taught(rich);
+      for (BellHammer each : new BellHammer[] {y, z}) {
+        for (int i = 0; i < done; i++) {
+          each.pass(1);
+          each.strike(i % 2, 0);
+        }
+      }
+      int foreseen = z.foresee(3, 1);
+      y.pass(3);
+      due(foreseen, y.count(7), "purses with rust, elbows and sore arms");
+      z.pass(3);
+      due(y.digest() == z.digest() ? 1 : 0, 1, "foresee changes nothing");
+    }
     illegalArgument(() -> x.foresee(0, 0));
     illegalArgument(() -> x.foresee(31, 0));
     illegalArgument(() -> x.foresee(0, 4));
@@ -814,6 +892,10 @@ public final class PromiseTest {
       due(x.advise(1, rounds), 0, "of several the least: nobody strikes at b");
     }
     due(taught(bill).advise(0, 1) > 0 ? 1 : 0, 1, "the spring of this bill is not the first one");
+    String costly = bill.replace("9 - 4 * bells", "100 - (bells - 2) * (4 - bells)");
+    due(taught(costly).advise(0, 1), leastSpring(costly, 1), "purses above 0");
+    String even = bill.replace("9 - 4 * bells", "100 + (bells - 2) * (bells - 2)");
+    due(taught(even).advise(0, 1), leastSpring(even, 1), "the least is in the middle");
     BellHammer x = taught(bill);
     outOfBounds(() -> x.advise(2, 1));
     outOfBounds(() -> x.advise(-1, 0));
