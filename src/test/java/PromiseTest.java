@@ -548,6 +548,8 @@ public final class PromiseTest {
     holds("not [1 = 2 and 1 = 2]", 1);
     holds("not 1 = 1 or 1 = 1", 1);
     holds("not not 1 = 1", 1);
+    holds("1 = 1 and not 1 = 2", 1);
+    holds("1 = 2 or not 1 = 1", 0);
     holds("rings", 0);
     holds("not rings", 1);
     holds("1 / 0 = 0 or 1 / 0 = 1", 1);
@@ -784,6 +786,14 @@ public final class PromiseTest {
         30, 59, 87, 99, 79, 59, 39, 19, 0, 12, 23, 33, 42, 50, 57, 63, 68, 72, 75, 77, 78, 78, 77,
         75, 72, 68, 63, 57, 50, 42, 33, 23, 12, 0, 7, 13, 18, 22, 25, 27, 28, 28, 27, 25, 22, 18,
         13, 7, 0, 3, 5, 6, 6, 5, 3, 0, 1, 1, 0);
+    // 24 * 14 / 20 is 16, and 17, 18, 19, 20, 20 behind it; 20 * 14 / 30 is 9.
+    pathIs("rail a high 99 puck 4 spring 14; fist f arm 27 aim 0 elbows 0;",
+        27, 53, 78, 99, 82, 64, 45, 25, 5, 0, 8, 15, 21, 26, 30, 33, 35, 36, 36, 35, 33, 30, 26, 21,
+        15, 8, 0, 2, 3, 3, 2, 0);
+    // 24 * 16 / 20 is 19, and 20 * 16 / 30 is 10.
+    pathIs("rail a high 99 puck 4 spring 16; fist f arm 27 aim 0 elbows 0;",
+        27, 53, 78, 99, 79, 59, 39, 19, 0, 9, 17, 24, 30, 35, 39, 42, 44, 45, 45, 44, 42, 39, 35, 30,
+        24, 17, 9, 0, 3, 5, 6, 6, 5, 3, 0);
     due(x.count(5), 0, "nothing is changed");
     outOfBounds(() -> x.path(2, 0, 0));
     outOfBounds(() -> x.path(0, 2, 0));
@@ -865,6 +875,15 @@ public final class PromiseTest {
       z.pass(3);
       due(y.digest() == z.digest() ? 1 : 0, 1, "foresee changes nothing");
     }
+    BellHammer rested = taught(FAIR + "prize p worth sore f of 9 when height > 15;"
+        + "turn f at b when height = 15 and round > 5; turn g at b;");
+    rested.strike(0, 0);
+    due(rested.foresee(1, 1), 4, "the sore arm of f");
+    due(rested.foresee(2, 1), 8, "no rest in the round of a strike out of turn");
+    due(rested.foresee(3, 1), 9, "rest in the round behind it");
+    BellHammer high = taught(FAIR + "turn f at a when height = 15; turn g at a when height = 20;");
+    high.strike(0, 0);
+    due(high.foresee(1, 3), 1, "the height of the latest strike");
     illegalArgument(() -> x.foresee(0, 0));
     illegalArgument(() -> x.foresee(31, 0));
     illegalArgument(() -> x.foresee(0, 4));
