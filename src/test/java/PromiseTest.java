@@ -180,6 +180,8 @@ public final class PromiseTest {
     promise = 4;
     accepted("rail az high 20 puck 4 spring 0; rail a0 high 20 puck 4 spring 0;"
         + "rail a high 20 puck 4 spring 0; rail aa high 20 puck 4 spring 0;");
+    accepted("rail b high 20 puck 4 spring 0; rail bb high 20 puck 4 spring 0;"
+        + "rail a0 high 20 puck 4 spring 0; rail dl high 20 puck 4 spring 0;");
     accepted("fist a9 arm 1 aim 0 elbows 0; fist aj arm 1 aim 0 elbows 0;"
         + "fist a00 arm 1 aim 0 elbows 0; fist abcdefghia arm 1 aim 0 elbows 0;"
         + "fist abcdefghi arm 1 aim 0 elbows 0; fist abcdefghib arm 1 aim 0 elbows 0;");
