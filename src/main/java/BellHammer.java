@@ -513,33 +513,29 @@ public final class BellHammer {
       error = 0;
       errorByte = -1;
       for (int n = 0; n <= Tokens.MOST_TOKENS && error != 1 && kind() != END; n++) {
-        readLine();
+        switch (kind()) {
+          case RAIL:
+            readRail();
+            break;
+          case RUST:
+            readRust();
+            break;
+          case FIST:
+            readFist();
+            break;
+          case PRIZE:
+            readPrize();
+            break;
+          case TURN:
+            readTurn();
+            break;
+          default:
+            refuse();
+            break;
+        }
         expect(';');
       }
       return error;
-    }
-
-    private void readLine() {
-      switch (kind()) {
-        case RAIL:
-          readRail();
-          break;
-        case RUST:
-          readRust();
-          break;
-        case FIST:
-          readFist();
-          break;
-        case PRIZE:
-          readPrize();
-          break;
-        case TURN:
-          readTurn();
-          break;
-        default:
-          refuse();
-          break;
-      }
     }
 
     private void readRail() {
@@ -652,21 +648,21 @@ public final class BellHammer {
           readPlainValue(RINGS);
           break;
         default:
-          readComparison(depth);
+          readSum(depth);
+          int sign = comparingSign();
+          readSum(depth);
+          contest.code.add(sign, 0);
           break;
       }
     }
 
-    private void readComparison(int depth) {
-      readSum(depth);
+    private int comparingSign() {
       int sign = kind();
-      if (!isComparing(sign)) {
-        refuse();
-        return;
-      }
-      expect(sign);
-      readSum(depth);
-      contest.code.add(sign, 0);
+      boolean compares =
+          sign == '<' || sign == '>' || sign == '=' || sign == AT_MOST || sign == AT_LEAST;
+      // Another token is none of the five, so any of them refuses it.
+      expect(compares ? sign : '=');
+      return sign;
     }
 
     private void readSum(int depth) {
@@ -753,10 +749,6 @@ public final class BellHammer {
         return contest.railNamed(name);
       }
       return kind == LEFT ? contest.prizeNamed(name) : contest.fistNamed(name);
-    }
-
-    private static boolean isComparing(int kind) {
-      return kind == '<' || kind == '>' || kind == '=' || kind == AT_MOST || kind == AT_LEAST;
     }
 
     private void expectNewName(boolean told, boolean full) {

@@ -36,6 +36,8 @@ public final class ModelTest {
     private final BellHammer real = new BellHammer();
     private final Model model = new Model();
     private final StringBuilder told = new StringBuilder();
+    // The document tells nothing of the calls behind the 512th one, so a run ends ahead of it.
+    private int used;
 
     Run(int number) {
       this.number = number;
@@ -44,9 +46,9 @@ public final class ModelTest {
 
     int play() {
       int bills = 1 + dice.below(3);
-      for (int i = 0; i < bills; i++) {
+      for (int i = 0; i < bills && used < 380; i++) {
         String bill = new BillMaker(dice).bill();
-        if (!feed(bill) || !teach() || !calls(3 + dice.below(real.count(4) > 0 ? 40 : 4))) {
+        if (!feed(bill) || !teach() || !calls(3 + dice.below(size(4) > 0 ? 40 : 4))) {
           System.out.println("run " + number + told);
           return 1;
         }
@@ -77,7 +79,7 @@ public final class ModelTest {
     }
 
     private boolean calls(int many) {
-      for (int i = 0; i < many; i++) {
+      for (int i = 0; i < many && used < 500; i++) {
         if (!call()) {
           return false;
         }
@@ -85,9 +87,14 @@ public final class ModelTest {
       return same("digest", x -> x.digest(), x -> x.digest());
     }
 
+    private int size(int what) {
+      used++;
+      return real.count(what);
+    }
+
     private boolean call() {
-      int a = dice.near(real.count(2));
-      int b = dice.near(real.count(1));
+      int a = dice.near(size(2));
+      int b = dice.near(size(1));
       int c = dice.near(4);
       int rounds = dice.below(3) == 0 ? dice.near(31) : 1 + dice.below(4);
       String given = "(" + a + ", " + b + ", " + c + ", " + rounds + ")";
@@ -122,10 +129,10 @@ public final class ModelTest {
           int what = dice.near(9);
           return same("fist " + what, x -> x.fist(a, what), x -> x.fist(a, what));
         case 12:
-          int prize = dice.near(real.count(3));
+          int prize = dice.near(size(3));
           return same("prize " + prize, x -> x.prize(prize, c), x -> x.prize(prize, c));
         case 13:
-          int turn = dice.near(real.count(4));
+          int turn = dice.near(size(4));
           return same("turn " + turn, x -> x.turn(turn, c), x -> x.turn(turn, c));
         case 14:
           int count = dice.near(10);
@@ -136,6 +143,7 @@ public final class ModelTest {
     }
 
     private boolean same(String call, ToLongFunction<BellHammer> one, ToLongFunction<Model> two) {
+      used++;
       String got = answer(real, one);
       String due = answer(model, two);
       told.append("\n").append(call).append(" -> ").append(got);
