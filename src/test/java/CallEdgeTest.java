@@ -1,6 +1,6 @@
 import java.math.BigInteger;
 
-/** The edges of the promises 1 to 21: what each call answers at the least, the most, empty, full. */
+/** The edges of the promises 1 to 21: what each call answers at the least and most, empty, full. */
 public final class CallEdgeTest extends Edge {
   private static final String RAIL = "rail a high 20 puck 4 spring 10;";
   private static final String FIST = "fist f arm 5 aim 0 elbows 0;";
@@ -28,6 +28,7 @@ public final class CallEdgeTest extends Edge {
     tellsPaths();
     tellsNeeds();
     foresees();
+    foreseesFromNow();
     advises();
     advisesTheLeast();
     tellsMeans();
@@ -72,7 +73,8 @@ public final class CallEdgeTest extends Edge {
 
   private static void answers512Calls() {
     sentence(1, "An object is used for at most 512 calls after it has been made");
-    String bill = RAIL + FIST + "prize p worth 1 of 99 when height >= 0;" + "turn f at a;".repeat(20);
+    String bill = RAIL + FIST + "prize p worth 1 of 99 when height >= 0;"
+        + "turn f at a;".repeat(20);
     BellHammer x = taught(bill);
     // Each feed takes 20 bytes, and count(9), trim and teach are calls, too.
     int used = (bill.length() + 19) / 20 + 3;
@@ -164,20 +166,31 @@ public final class CallEdgeTest extends Edge {
     String[] bills = {
       "", RAIL, FIST, RAIL + FIST,
       "rail z high 33 puck 1 spring 20; rail y high 20 puck 9 spring 0; fist f arm 20 aim 1 elbows"
-          + " 9; fist e arm 3 aim 0 elbows 0; prize p worth 7 of 2 when rings or height = 0;"
-          + " turn e at y; turn f at z when bells = 0;"
+          + " 9; fist e arm 30 aim 0 elbows 0; prize p worth 7 + height of 9 when rings or height ="
+          + " 0; rust on z from 0 to 20 by 1; rust on y from 3 to 9 by 2; turn e at y; turn f at z;"
     };
     for (String bill : bills) {
-      BellHammer x = midway();
-      due(teach(x, bill), 0, "teach of " + bill);
-      BellHammer fresh = new BellHammer();
-      fresh.pass(2);
-      due(teach(fresh, bill), 0, "teach of " + bill);
-      due(x.count(0), 2, "the round stays");
-      due(x.count(8), 0, "the board is empty");
-      outOfBounds("board(0) behind a bill", x, y -> y.board(0));
-      dueText(allAnswers(x), allAnswers(fresh), "all behind a bill");
-      sameFromNowOn(x, fresh, "a bill behind a bill");
+      for (int before = 0; before <= 4; before++) {
+        BellHammer x = midway();
+        for (int i = 0; i < before; i++) {
+          // From the second bill on, a forgotten one is in the way, or what was foreseen of one.
+          due(teach(x, bills[4]), 0, "a bill in between");
+          x.strike(0, 0);
+          x.strike(1, 0);
+          due(i % 2 == 0 ? x.foresee(1, 3) : 2, 2, "strikes that are foreseen");
+          x.pass(1);
+          x.strike(1, 1);
+        }
+        due(teach(x, bill), 0, "teach of " + bill);
+        BellHammer fresh = new BellHammer();
+        fresh.pass(2 + before);
+        due(teach(fresh, bill), 0, "teach of " + bill);
+        due(x.count(0), 2 + before, "the round stays");
+        due(x.count(8), 0, "the board is empty");
+        outOfBounds("board(0) behind a bill", x, y -> y.board(0));
+        dueText(allAnswers(x), allAnswers(fresh), "all behind a bill");
+        sameFromNowOn(x, fresh, "a bill behind a bill");
+      }
     }
     BellHammer x = taught(RAIL + FIST + "turn f at a;");
     x.strike(0, 0);
@@ -285,7 +298,7 @@ public final class CallEdgeTest extends Edge {
   private static void tellsRails() {
     sentence(7, "- `what`: 0 its high, 1 its puck, 2 its spring, 3 the greatest height there so far, 4"
         + " strikes there");
-    BellHammer x = taught("rail a high 20 puck 4 spring 10; rail b high 99 puck 9 spring 20;" + FIST);
+    BellHammer x = taught(RAIL + "rail b high 99 puck 9 spring 20;" + FIST);
     int[][] due = {{20, 4, 10, 0, 0}, {99, 9, 20, 0, 0}};
     for (int i = 0; i < 10; i++) {
       due(x.rail(i / 5, i % 5), due[i / 5][i % 5], "rail(" + i / 5 + ", " + i % 5 + ")");
@@ -385,9 +398,7 @@ public final class CallEdgeTest extends Edge {
   private static void tellsTheBoard() {
     sentence(11, "- `index`: 0 for the latest strike, 1 for the one ahead of it, and so on Returns its height"
         + " (the board has the latest 10).");
-    // A rail that is so high that each force of 15 to 1 has a height of its own.
-    StringBuilder bill = new StringBuilder("rail a high 99 puck 1 spring 0;");
-    BellHammer x = taught(bill + "fist f arm 7 aim 0 elbows 0;"
+    BellHammer x = taught("rail a high 99 puck 1 spring 0; fist f arm 7 aim 0 elbows 0;"
         + "rail b high 99 puck 9 spring 0; fist g arm 60 aim 0 elbows 0;");
     int[] heights = new int[13];
     for (int i = 0; i < heights.length; i++) {
@@ -568,6 +579,65 @@ public final class CallEdgeTest extends Edge {
       int bells = then.count(6);
       int strikes = then.count(5);
       int given = then.pass(rounds);
+      due(now.foresee(rounds, 0), given, "prizes of " + rounds + " rounds");
+      due(now.foresee(rounds, 1), then.count(7), "purses behind " + rounds + " rounds");
+      due(now.foresee(rounds, 2), then.count(6) - bells, "bells of " + rounds + " rounds");
+      due(now.foresee(rounds, 3), then.count(5) - strikes, "strikes of " + rounds + " rounds");
+    }
+  }
+
+  private static void foreseesFromNow() {
+    sentence(18, "Returns this, if nothing is done by others");
+    String bill = "rail a high 60 puck 2 spring 19; rail b high 40 puck 3 spring 7;"
+        + "rust on a from 10 to 30 by 1; rust on b from 0 to 5 by 2; fist f arm 9 aim 4 elbows 1;"
+        + "fist g arm 15 aim 3 elbows 8; fist h arm 30 aim 0 elbows 0;"
+        + "prize p worth best a + sore g * 100 + sore h * 10000 of 9 when rings and bells < 3;"
+        + "prize q worth best b * 10 + purse f of 9 when height > 20;"
+        + "prize r worth 1 + left p * 1000 + round of 50 when not rings;"
+        + "turn f at a when height > 3; turn f at b; turn g at a when bells = 0; turn g at b;";
+    int[][] strikes = {{}, {2, 0}, {2, 1}, {0, 0}, {1, 0}, {2, 0, 0, 1}, {2, 1, 1, 1}};
+    for (int passed = 0; passed <= 3; passed++) {
+      for (int[] each : strikes) {
+        BellHammer now = taught(bill);
+        BellHammer then = taught(bill);
+        for (BellHammer x : new BellHammer[] {now, then}) {
+          for (int i = 0; i < passed; i++) {
+            x.pass(1);
+          }
+          for (int i = 0; i < each.length; i += 2) {
+            x.strike(each[i], each[i + 1]);
+          }
+        }
+        foreseesAs(now, then);
+      }
+    }
+    String fair = RAIL + "fist f arm 5 aim 0 elbows 0; fist g arm 8 aim 0 elbows 3;";
+    foresees(1, 3, fair + "turn f at a when height = 15;", 0);
+    foresees(0, 3, fair + "turn f at a when height = 15;", 1);
+    foresees(1, 3, fair + "turn f at a when bells = 1;", 1);
+    foresees(1, 3, fair + "turn f at a when rings;", 1);
+    foresees(0, 3, fair + "turn f at a when rings;", 0);
+    foresees(1, 3, fair + "turn g at a when best a = 15;", 0);
+    foresees(1, 3, fair + "turn g at a when sore f = 4;", 0);
+    foresees(1, 1, fair + "prize p worth 1 + 10 * sore f of 1 when sore g = 8;"
+        + "turn f at a; turn g at a;", 1);
+    foresees(7, 1, fair + "prize p worth 7 of 1 when rings; turn g at a when purse g = 7;", 1);
+    foresees(1, 2, fair + "turn f at a when sore f + sore g = 4; turn g at a when sore g = 0;", 0);
+  }
+
+  /** What is foreseen for the first round behind a strike of this fist. */
+  private static void foresees(int due, int what, String bill, int fist) {
+    BellHammer x = taught(bill);
+    x.strike(fist, 0);
+    due(x.foresee(1, what), due, "foresee(1, " + what + ") of " + bill);
+  }
+
+  private static void foreseesAs(BellHammer now, BellHammer then) {
+    int bells = then.count(6);
+    int strikes = then.count(5);
+    int given = 0;
+    for (int rounds = 1; rounds <= 4; rounds++) {
+      given += then.pass(1);
       due(now.foresee(rounds, 0), given, "prizes of " + rounds + " rounds");
       due(now.foresee(rounds, 1), then.count(7), "purses behind " + rounds + " rounds");
       due(now.foresee(rounds, 2), then.count(6) - bells, "bells of " + rounds + " rounds");

@@ -82,7 +82,10 @@ public final class LanguageEdgeTest extends Edge {
     worthIs("999999 * 999999", BigInteger.valueOf(999999).pow(2).intValue());
     worthIs("min(" + LEAST + "," + MOST + ")", Integer.MIN_VALUE);
     worthIs("max(" + LEAST + "," + MOST + ")", Integer.MAX_VALUE);
+    worthIs("min(" + MOST + "," + LEAST + ")", Integer.MIN_VALUE);
+    worthIs("max(" + MOST + "," + LEAST + ")", Integer.MAX_VALUE);
     worthIs("min(" + MOST + " + 1, 0)", Integer.MIN_VALUE);
+    worthIs("max(0, " + LEAST + " - 1)", Integer.MAX_VALUE);
     holds(LEAST + "<" + MOST);
     holds(MOST + " + 1 < 0");
     holds(LEAST + " - 1 > 0");
@@ -211,6 +214,15 @@ public final class LanguageEdgeTest extends Edge {
     full.teach();
     due(teach(full, " ".repeat(2000 - RAIL.length()) + RAIL), 0, "a full tape behind a full tape");
     due(full.count(1), 1, "rails of the second full tape");
+    BellHammer again = new BellHammer();
+    String most = worth("1" + "+1".repeat(195));
+    for (int i = 0; i < 5; i++) {
+      due(teach(again, most), 0, "teach of as many tokens as can be, once more");
+      due(again.prize(0, 2), 196, "a worth of as many tokens as can be, once more");
+      due(teach(again, RAIL + RUST.repeat(12)), 0, "teach of 12 rusts, once more");
+      due(teach(again, RAIL + FIST + TURN.repeat(20) + "rail"), 1, "an error behind 20 turns");
+      due(teach(again, most + "rail"), 1, "an error behind as many tokens as can be");
+    }
   }
 
   // ---- 1. The language: tokens
@@ -296,6 +308,27 @@ public final class LanguageEdgeTest extends Edge {
     refused(2, "rail abcdefghij high 20 puck 4 spring 1;rail @abcdefghij high 20 puck 4 spring 1;");
     accepted("rail zzzzzzzzzz high 20 puck 4 spring 1;rail z999999999 high 20 puck 4 spring 1;"
         + "rail zzzzzzzzz high 20 puck 4 spring 1;rail z high 20 puck 4 spring 1;");
+    // Words that a careless way to count their letters and digits would take for the same.
+    alike("a", "aa", "aaa", "a1", "a11", "a1a", "aa1");
+    alike("az", "a0", "dl", "b0", "aj", "a9", "ba", "ak");
+    alike("abcdefghi", "abcdefghia", "abcdefghib", "abcdefgh", "bcdefghi", "abcdefghi0");
+    alike("rail1", "rails", "rai", "ral", "rali", "lrai", "rial");
+  }
+
+  /** All these names are taken for different ones, and each for the same one when it is read. */
+  private static void alike(String... names) {
+    StringBuilder bill = new StringBuilder(RAIL);
+    for (String name : names) {
+      bill.append("fist " + name + " arm 5 aim 0 elbows 0;");
+    }
+    for (String name : names) {
+      bill.append("turn " + name + " at a;");
+    }
+    BellHammer x = taught(bill.toString());
+    for (int i = 0; i < names.length; i++) {
+      due(x.turn(i, 0), i, "the fist of the turn of " + names[i]);
+      refused(2, bill + "fist @" + names[i] + " arm 5 aim 0 elbows 0;");
+    }
   }
 
   private static void readsNumbers() {

@@ -638,11 +638,18 @@ public final class StrikeEdgeTest extends Edge {
     due(teach(x, RAIL + FIST + "prize q worth best a + purse f + sore f + height + bells of 1"
         + " when rings;"), 0, "teach behind a strike");
     due(x.prize(0, 2), 0, "all is 0 again behind a new bill");
-    BellHammer y = taught("rail a high 20 puck 4 spring 0; fist f arm 8 aim 0 elbows 0;");
-    y.strike(0, 0);
-    due(teach(y, worth("height + bells")), 0, "teach behind a strike that rang");
-    due(y.prize(0, 2), 0, "height and bells behind a new bill");
-    due(y.prize(0, 3), 0, "rings behind a new bill");
+    BellHammer y = new BellHammer();
+    for (int i = 0; i < 5; i++) {
+      due(teach(y, "rail a high 20 puck 4 spring 0; fist f arm 8 aim 0 elbows 0;"
+          + worth("height * 10 + bells") + "turn f at a;"), 0, "teach behind a strike that rang");
+      due(y.prize(0, 2), 0, "height and bells behind a new bill");
+      due(y.prize(0, 3), 0, "rings behind a new bill");
+      due(y.foresee(1, 2), 1, "bells that are foreseen");
+      y.strike(0, 0);
+      due(y.prize(0, 2), 201, "height and bells behind a strike");
+      due(y.prize(0, 3), 1, "rings behind a strike");
+      due(i % 2 == 0 ? y.foresee(2, 3) : 2, 2, "strikes that are foreseen");
+    }
   }
 
   private static void readsTheLatestStrike() {
@@ -655,6 +662,14 @@ public final class StrikeEdgeTest extends Edge {
     int[][] strikes = {{0, 0}, {1, 1}, {0, 0}};
     int[][] worths = {{15, 0, 1500, 4}, {20, 3, 1520, 2004}, {1, 0, 1520, 2008}};
     int[][] tests = {{0, 0, 0, 1}, {1, 1, 1, 0}, {0, 0, 1, 1}};
+    BellHammer left = taught(RAIL + FIST + "prize p worth 1 of 3 when rings;"
+        + "prize q worth 1 of 5 when height >= 0; prize r worth left p * 10 + left q of 0"
+        + " when left q = 4;");
+    due(left.prize(2, 2), 35, "left of both prizes");
+    due(left.prize(2, 3), 0, "a test of the second prize");
+    left.strike(0, 0);
+    due(left.prize(2, 2), 34, "left of both prizes behind a strike");
+    due(left.prize(2, 3), 1, "a test of the second prize behind a strike");
     for (int i = 0; i < strikes.length; i++) {
       x.strike(strikes[i][0], strikes[i][1]);
       for (int prize = 0; prize < 4; prize++) {
