@@ -185,7 +185,7 @@ public final class StrikeEdgeTest extends Edge {
 
   private static void fliesAtMost300Ticks() {
     sentence(16, "Otherwise it flies tick by tick, at most 300");
-    // No flight of any bill is longer than this one.
+    // Of all the flights that were tried, with and without rust, none is longer than this one.
     BellHammer x = one(91, 1, 20, 5);
     due(x.would(0, 0, 2), 62, "ticks of the longest flight");
     due(x.path(0, 0, 1), 20, "the first place");
